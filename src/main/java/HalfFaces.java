@@ -688,7 +688,7 @@ public final class HalfFaces {
             return true;
         }
 
-        /** Behind the end stands a character that is allowed nowhere, so a text that ends too early has its fault there. */
+        // Behind the end stands a character that is allowed nowhere: a text that ends too early has its fault there.
         private char characterAt(int index) {
             return index >= 0 && index < length ? characters[index] : (char) 0;
         }
@@ -738,7 +738,7 @@ public final class HalfFaces {
             return NO_FAULT;
         }
 
-        /** The text has no fault when this is called. */
+        // The text has no fault when this is called.
         private int writeRows(State state) {
             int entries = 0;
             for (int start = 0; start < length; start += formAt(start).length() + 1) {

@@ -16,6 +16,7 @@ public final class PaintingTest {
         copyRefused();
         hour();
         painterTells();
+        painterTellsOfEdges();
         painterOutside();
         CHECK.end();
     }
@@ -211,6 +212,22 @@ public final class PaintingTest {
         Check.with(x, "R14:000,R15:002");
         CHECK.due("the last cell's row", x.painter(true, 1, 5), 5);
         CHECK.due("the last cell's column", x.painter(true, 1, 6), 2);
+    }
+
+    private static void painterTellsOfEdges() {
+        HalfFaces x = new HalfFaces();
+        CHECK.due("the row without an error", x.painter(true, 3, 5), 0);
+        CHECK.due("the column without an error", x.painter(true, 3, 6), 0);
+        Check.with(x, "0:500700,5:001009");
+        CHECK.due("the column of the first cell", x.painter(false, 0, 6), 0);
+        CHECK.due("its row", x.painter(false, 0, 5), 0);
+        CHECK.due("its error", x.painter(false, 0, 4), 5);
+        CHECK.due("the error of the left half 3", x.painter(false, 3, 1), 6);
+        CHECK.due("the error of the right half 0", x.painter(true, 0, 1), 16);
+        CHECK.due("its greatest", x.painter(true, 0, 4), 9);
+        CHECK.due("its row", x.painter(true, 0, 5), 5);
+        CHECK.due("its column", x.painter(true, 0, 6), 2);
+        CHECK.due("its cells without an error", x.painter(true, 0, 7), 16);
     }
 
     private static int coinsOf(HalfFaces x, int left) {

@@ -7,6 +7,7 @@ public final class PairsTest {
         pair();
         pairOutside();
         breaks();
+        breaksOfTheseHalvesAlone();
         breaksLikeTheSitter();
         likeness();
         faceOutside();
@@ -71,6 +72,22 @@ public final class PairsTest {
         CHECK.due("tolerance 9", x.face(1, 2, 1), 0);
         CHECK.due("no first one", x.face(1, 2, 2), HalfFaces.NONE);
         CHECK.due("the sum", x.face(1, 2, 3), 15);
+    }
+
+    private static void breaksOfTheseHalvesAlone() {
+        HalfFaces x = Check.with(new HalfFaces(), "L10:009,R10:009,R00:009,L20:990", "L00:002");
+        CHECK.due("breaks", x.face(0, 0, 1), 1);
+        CHECK.due("the first row", x.face(0, 0, 2), 0);
+        CHECK.due("the sum", x.face(0, 0, 3), 2);
+        CHECK.due("no breaks", x.face(2, 2, 1), 0);
+        CHECK.due("all breaks", x.count(5), 2);
+        Check.with(x, "L00:000,L10:000");
+        CHECK.due("no first row, whatever the next painters have", x.face(0, 0, 2), HalfFaces.NONE);
+        CHECK.due("the sum", x.face(0, 0, 3), 0);
+        CHECK.due("all breaks", x.count(5), 0);
+        Check.with(x, "L10:009");
+        CHECK.due("no first row, whatever the next painters have", x.face(0, 0, 2), HalfFaces.NONE);
+        CHECK.due("the sum", x.face(0, 0, 3), 0);
     }
 
     private static void breaksLikeTheSitter() {
